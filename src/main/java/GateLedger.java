@@ -268,7 +268,7 @@ public final class GateLedger {
     if (place < 0 || place > 15) {
       throw new IndexOutOfBoundsException("no such place");
     }
-    needRange(number, 0, Integer.MAX_VALUE);
+    needRange(number, 0, 2147483647);
     int low = 2 * place;
     int below = low == 0 ? 0 : number >> (low - 1) & 1;
     return (number >> low & 1) + below - 2 * (number >> (low + 1) & 1);
@@ -875,7 +875,7 @@ public final class GateLedger {
     }
   }
 
-  /** Each gate's bits over time as a row of words: a delay is a shift, a change two unlike neighbours. */
+  /** Bits of each gate over time, in words: a delay is a shift, a change two unlike neighbours. */
   private static final class Waves {
     private static final int WORD_BITS = 64;
     /** Enough for the time 1071, which 119 gates of delay 9 have. */

@@ -5,7 +5,7 @@ import java.util.List;
 import java.util.Map;
 import java.util.Set;
 
-/** The document once more, in other words than GateLedger's: objects, maps and recursion, no care for speed. */
+/** The document once more in other words: objects, maps and recursion, no care for speed. */
 final class PlainNets {
   private static final class Gate {
     final int number;
