@@ -607,9 +607,25 @@ public final class AnswerEdgesTest extends Edges {
     x.stick(0, 1, NONE);
     x.stick(0, 119, 0);
     changes(0, 0, 1, 118, 118, 1);
+    // One gate is all the 16 outs.
+    inputs(x, 1, 1);
+    gate(1, NOT, 0, 0);
+    outs(x, 1, 1, 16);
+    changes(1, 0, 1, 1, 1, 1);
 
     for (int promise = 16; promise <= 17; promise++) {
       of(promise, "Returns as told.");
+      // A net with all the gates, inputs and outs that it may have.
+      inputs(x, 0, 30);
+      for (int gate = 30; gate < 120; gate++) {
+        gate(0, NOT, gate % 30, 0);
+      }
+      for (int place = 0; place < 16; place++) {
+        x.out(0, 104 + place);
+      }
+      changes(0, 0, MOST_NUMBER, 90, 1, 16);
+      changes(0, 0, 1 << 29, 3, 1, 1);
+      changes(0, MOST_NUMBER, MOST_NUMBER - 1, 3, 1, 0);
       inputs(x, 3, 1);
       gate(3, NOT, 0, 0);
       for (int place = 0; place < 16; place++) {

@@ -23,6 +23,7 @@ public final class FaceTest {
 
   public static void main(String[] args) throws Exception {
     faceIsTheDocuments();
+    groupsAreNamed();
     nothingElseIsVisible();
     namesOfTheFaceAreItsOwn();
     textKeepsToTheLanguage();
@@ -52,6 +53,28 @@ public final class FaceTest {
     };
     Check.same("the constants", java.util.Arrays.toString(constants),
         "[-1, 0, 1, 2, 3, 0, 1, 2, 0, 1]");
+  }
+
+  /** "Ahead of the calls .. the interface says: .." */
+  private static void groupsAreNamed() throws Exception {
+    Matcher told = Pattern.compile("Ahead of the calls (.*) the interface says: (---- [^\n]*)\\.\n")
+        .matcher(Files.readString(DOCUMENT));
+    String program = Files.readString(PROGRAM);
+    int groups = 0;
+    while (told.find()) {
+      groups++;
+      int from = program.indexOf("  // " + told.group(2) + "\n");
+      Check.holds(told.group(2) + " stands", from >= 0);
+      int to = program.indexOf("  // ----", Math.max(from, 0) + 1);
+      Matcher method = Pattern.compile("\n  public int (\\w+)\\(")
+          .matcher(program.substring(Math.max(from, 0), to < 0 ? program.length() : to));
+      List<String> got = new ArrayList<>();
+      while (method.find()) {
+        got.add("`" + method.group(1) + "`");
+      }
+      Check.same(told.group(2), String.join(", ", got), told.group(1));
+    }
+    Check.same("how many groups", String.valueOf(groups), "6");
   }
 
   private static void nothingElseIsVisible() {

@@ -13,6 +13,7 @@ public final class FaultEdgesTest extends Edges {
     digitsByFour();
     promise18Off();
     promise18LeastAndGreatest();
+    heldWithAllGatesAndOuts();
     promise18And19Inputs();
     promise18Refused();
     promise19Unseen();
@@ -172,6 +173,40 @@ public final class FaultEdgesTest extends Edges {
     gate(3, NOT, 49, 0);
     x.out(3, 50);
     off(3, PLUS, 1, 128, 128, 0);
+  }
+
+  /** The value is 65535 where the highest bit of y is 1, otherwise 0. */
+  private static void heldWithAllGatesAndOuts() {
+    int sumsOfLowY = 32 * 2016 + 64 * 496;
+    int sumsOfHighY = SUMS - sumsOfLowY;
+    int productsOfLowY = 2016 * 496;
+    int productsOfHighY = PRODUCTS - productsOfLowY;
+    for (int promise = 18; promise <= 19; promise++) {
+      of(promise, promise == 18 ? "Holds a net against an operation" : "Counts the numbers that are unseen.");
+      inputs(x, 0, 12);
+      chain(x, 0, 120);
+      outs(x, 0, 119, 16);
+      counts(0, 120, 12, 16);
+      int ofSums = sumsOfLowY + 2048 * 65535 - sumsOfHighY;
+      off(0, PLUS, 4095, 65535 - 32, ofSums, 1);
+      int ofProducts = productsOfLowY + 2048 * 65535 - productsOfHighY;
+      off(0, TIMES, 63 * 31 + 2048, 65535, ofProducts, 65);
+      // With a low y the sum is even, and not 0; with a high one it is odd, as 65535 is.
+      unseen(0, PLUS, 2, 1023 + 1024);
+      unseen(0, TIMES, 2, 63 * 31 - 32 * 16 + 32 * 16);
+    }
+    of(20, "`other`: a net, perhaps the same");
+    for (int net = 0; net < 2; net++) {
+      inputs(x, net, 12);
+      chain(x, net, 120);
+      outs(x, net, 119 - 2 * net, 16);
+    }
+    unlike(0, 1, NONE);
+    unlike(1, 1, NONE);
+    x.stick(1, 117, 0);
+    unlike(0, 1, 2048);
+    x.stick(1, 117, 1);
+    unlike(0, 1, 0);
   }
 
   private static void promise18And19Inputs() {
