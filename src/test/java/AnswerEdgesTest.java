@@ -22,8 +22,7 @@ public final class AnswerEdgesTest extends Edges {
     promise16And17Whats();
     promise16And17LatestTimes();
     promise16And17Refused();
-    Document.allNamed("Areas, delays", "Changes", "Promise 10", "Promise 11", "Promise 12",
-        "Promise 13", "Promise 14", "Promise 15", "Promise 16", "Promise 17");
+    Document.allNamed("AnswerEdgesTest");
     Check.end("AnswerEdgesTest");
   }
 

@@ -12,7 +12,6 @@ import java.util.regex.Pattern;
 
 /** The public face as the document has it, and those rules of LANGUAGE.md that can be seen. */
 public final class FaceTest {
-  private static final Path DOCUMENT = Path.of("../shared/DOC.md");
   private static final Path PROGRAM = Path.of("src/main/java/GateLedger.java");
 
   private static final String[] RULED_OUT = {
@@ -28,53 +27,78 @@ public final class FaceTest {
     namesOfTheFaceAreItsOwn();
     textKeepsToTheLanguage();
     methodsAreShort();
+    Document.allNamed("FaceTest");
+    Document.everySectionHasATest();
     Check.end("FaceTest");
   }
 
+  /** Each line of the document's code is one of these forms, and all of them together are the face. */
   private static void faceIsTheDocuments() throws Exception {
-    String document = Files.readString(DOCUMENT);
-    Matcher told = Pattern.compile("    public (int \\w+\\(.*\\) throws .*);\n").matcher(document);
     TreeSet<String> due = new TreeSet<>();
-    while (told.find()) {
-      due.add(told.group(1).replaceAll("(int) \\w+(?=[,)])", "$1").replace(", ", ","));
-    }
-    TreeSet<String> got = new TreeSet<>();
-    for (Method method : GateLedger.class.getDeclaredMethods()) {
-      if (Modifier.isPublic(method.getModifiers())) {
-        got.add(method.toGenericString().replace("public ", "").replace("GateLedger.", "")
-            .replace("java.lang.", ""));
+    for (String line : Document.sentences("The public face")) {
+      Document.name("The public face", line);
+      String told = line.strip();
+      if (told.startsWith("public static final int ")) {
+        for (String constant : told.replaceAll("^public static final int |;$", "").split(", ")) {
+          due.add("public static final int " + constant);
+        }
+      } else if (told.startsWith("public final class ") || told.startsWith("public GateLedger(")) {
+        due.add(told.replaceAll(" \\{$|;$", ""));
+      } else if (told.startsWith("public int ")) {
+        due.add(told.replaceAll("(int) \\w+(?=[,)])", "$1").replaceAll(";$", "").replace(", ", ","));
+      } else {
+        Check.holds("an empty line or a bracket: " + told, told.matches("|\\}|```(java)?"));
       }
     }
-    Check.same("the methods", String.join("\n", got), String.join("\n", due).replace(", ", ","));
-    Check.same("how many methods", String.valueOf(got.size()), "20");
-    int[] constants = {
-      GateLedger.NONE, GateLedger.AND, GateLedger.OR, GateLedger.XOR, GateLedger.NOT,
-      GateLedger.RIPPLE, GateLedger.SPREAD, GateLedger.JUMP, GateLedger.PLUS, GateLedger.TIMES
-    };
-    Check.same("the constants", java.util.Arrays.toString(constants),
-        "[-1, 0, 1, 2, 3, 0, 1, 2, 0, 1]");
+    Check.same("how many of the document", String.valueOf(due.size()), "32");
+    Check.same("the face", String.join("\n", face()), String.join("\n", due));
+  }
+
+  private static TreeSet<String> face() throws Exception {
+    TreeSet<String> face = new TreeSet<>();
+    face.add(GateLedger.class.toGenericString());
+    for (Constructor<?> constructor : GateLedger.class.getConstructors()) {
+      face.add(constructor.toGenericString());
+    }
+    for (Field field : GateLedger.class.getFields()) {
+      String of = field.toGenericString().replace("GateLedger.", "");
+      face.add(of + " = " + (Modifier.isStatic(field.getModifiers()) ? field.get(null) : "?"));
+    }
+    for (Method method : GateLedger.class.getDeclaredMethods()) {
+      if (Modifier.isPublic(method.getModifiers())) {
+        face.add(method.toGenericString().replace("GateLedger.", "").replace("java.lang.", ""));
+      }
+    }
+    return face;
   }
 
   /** "Ahead of the calls .. the interface says: .." */
   private static void groupsAreNamed() throws Exception {
-    Matcher told = Pattern.compile("Ahead of the calls (.*) the interface says: (---- [^\n]*)\\.\n")
-        .matcher(Files.readString(DOCUMENT));
+    Pattern form = Pattern.compile("Ahead of the calls (.*) the interface says: (---- .*)\\.");
     String program = Files.readString(PROGRAM);
     int groups = 0;
-    while (told.find()) {
-      groups++;
-      int from = program.indexOf("  // " + told.group(2) + "\n");
-      Check.holds(told.group(2) + " stands", from >= 0);
-      int to = program.indexOf("  // ----", Math.max(from, 0) + 1);
-      Matcher method = Pattern.compile("\n  public int (\\w+)\\(")
-          .matcher(program.substring(Math.max(from, 0), to < 0 ? program.length() : to));
-      List<String> got = new ArrayList<>();
-      while (method.find()) {
-        got.add("`" + method.group(1) + "`");
+    for (String line : Document.sentences("The groups")) {
+      Document.name("The groups", line);
+      Matcher told = form.matcher(line);
+      if (told.matches()) {
+        groups++;
+        Check.same(told.group(2), methodsBehind(program, told.group(2)), told.group(1));
       }
-      Check.same(told.group(2), String.join(", ", got), told.group(1));
     }
     Check.same("how many groups", String.valueOf(groups), "6");
+  }
+
+  private static String methodsBehind(String program, String group) {
+    int from = program.indexOf("  // " + group + "\n");
+    Check.holds(group + " stands", from >= 0);
+    int to = program.indexOf("  // ----", Math.max(from, 0) + 1);
+    Matcher method = Pattern.compile("\n  public int (\\w+)\\(")
+        .matcher(program.substring(Math.max(from, 0), to < 0 ? program.length() : to));
+    List<String> names = new ArrayList<>();
+    while (method.find()) {
+      names.add("`" + method.group(1) + "`");
+    }
+    return String.join(", ", names);
   }
 
   private static void nothingElseIsVisible() {

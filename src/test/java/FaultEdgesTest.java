@@ -23,7 +23,7 @@ public final class FaultEdgesTest extends Edges {
     promise20Refused();
     promise21Digit();
     promise21Refused();
-    Document.allNamed("Faults", "Digits", "Promise 18", "Promise 19", "Promise 20", "Promise 21");
+    Document.allNamed("FaultEdgesTest");
     Check.end("FaultEdgesTest");
   }
 

@@ -19,7 +19,7 @@ public final class MadeEdgesTest extends Edges {
     promise05Refused();
     promise06Multiplier();
     promise06Refused();
-    Document.allNamed("Adders, multipliers", "Promise 5", "Promise 6");
+    Document.allNamed("MadeEdgesTest");
     Check.end("MadeEdgesTest");
   }
 

@@ -18,8 +18,7 @@ public final class NetEdgesTest extends Edges {
     promise08Refused();
     promise09Stick();
     promise09Refused();
-    Document.allNamed("Nets", "Promise 1", "Promise 2", "Promise 3", "Promise 4", "Promise 7",
-        "Promise 8", "Promise 9");
+    Document.allNamed("NetEdgesTest");
     Check.end("NetEdgesTest");
   }
 

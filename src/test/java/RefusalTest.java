@@ -63,8 +63,7 @@ public final class RefusalTest extends Edges {
     digitsByFour();
     System.out.println("RefusalTest: " + refused + " calls refused, " + allowed + " allowed");
     Check.holds("there were calls of both sorts", refused > 1000 && allowed > 100);
-    constants();
-    lastCalls();
+    Document.allNamed("RefusalTest");
     Check.end("RefusalTest");
   }
 
@@ -215,58 +214,6 @@ public final class RefusalTest extends Edges {
     of(21, "if there is no such place");
     tryAll("digit", Edges::empty, (l, a) -> l.digit(a[1], a[0]), a -> null,
         new Range(0, 15, Check.INDEX), new Range(0, GREATEST, Check.ARGUMENT));
-  }
-
-  // ---- constants, and how long an object is used
-
-  private static void constants() {
-    of("Exceptions", "`NONE = -1`: There is none; a gate that does not stick.");
-    Check.due(-1, "NONE", () -> GateLedger.NONE);
-    Check.due(-1, "there is none", () -> x.path(0, 0));
-    x.input(0);
-    Check.due(-1, "a gate that does not stick", () -> x.stick(0, 0, -1));
-    of("Exceptions", "`AND = 0, OR = 1, XOR = 2, NOT = 3`: Kinds.");
-    of("Exceptions", "`RIPPLE = 0, SPREAD = 1, JUMP = 2`: Forms of adders.");
-    of("Exceptions", "`PLUS = 0, TIMES = 1`: Operations.");
-    int[] got = {AND, OR, XOR, NOT, RIPPLE, SPREAD, JUMP, PLUS, TIMES};
-    int[] due = {0, 1, 2, 3, 0, 1, 2, 0, 1};
-    for (int k = 0; k < due.length; k++) {
-      int constant = got[k];
-      Check.due(due[k], "constant " + k, () -> constant);
-    }
-  }
-
-  /** Calls 1 to 511, whatever they were, and then the last one that counts. */
-  private static void lastCalls() {
-    of("What it is", "An object is used for at most 512 calls after it has been made");
-    for (int call = 1; call <= 511; call++) {
-      Check.refused(Check.INDEX, "call " + call, () -> x.input(4));
-    }
-    Check.due(0, "the 512th call", () -> x.input(0));
-
-    x = new GateLedger();
-    x.adder(0, JUMP, 6);
-    x.stick(0, 0, 1);
-    for (int call = 3; call <= 511; call++) {
-      Check.due(2048, "call " + call, () -> x.off(0, PLUS, 2));
-    }
-    Check.due(0, "the 512th call", () -> x.unseen(0, PLUS, 2));
-
-    x = new GateLedger();
-    allFull(x);
-    for (int call = 4 * 68 + 1; call <= 510; call++) {
-      x.changesAnew(call % 4, 0, MOST_NUMBER, call % 3);
-    }
-    Check.refused(Check.STATE, "the 511th call", () -> x.input(3));
-    Check.due(120, "the 512th call", () -> x.clear(3));
-
-    x = new GateLedger();
-    for (int call = 1; call <= 510; call += 2) {
-      Check.due(36, "call " + call, () -> x.multiplier(2, 3));
-      Check.due(36, "call " + (call + 1), () -> x.clear(2));
-    }
-    Check.due(72, "the 511th call", () -> x.multiplier(2, 4));
-    Check.due(0, "the 512th call", () -> x.off(2, TIMES, 0));
   }
 
   // ---- how they are tried
