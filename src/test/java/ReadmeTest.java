@@ -1,18 +1,14 @@
-import java.io.ByteArrayOutputStream;
-import java.io.PrintStream;
 import java.lang.reflect.Method;
 import java.lang.reflect.Modifier;
-import java.net.URL;
-import java.net.URLClassLoader;
 import java.nio.charset.StandardCharsets;
 import java.nio.file.Files;
 import java.nio.file.Path;
+import java.nio.file.StandardCopyOption;
 import java.util.ArrayList;
 import java.util.List;
 import java.util.regex.Matcher;
 import java.util.regex.Pattern;
 import java.util.stream.Stream;
-import javax.tools.ToolProvider;
 
 /** README.md: its example is run and answers what stands there, and its list of tests is whole. */
 public final class ReadmeTest {
@@ -23,7 +19,7 @@ public final class ReadmeTest {
   public static void main(String[] args) throws Exception {
     String readme = Files.readString(Path.of("README.md"));
     String example = block(readme, "java");
-    exampleAnswersAsItSays(example);
+    exampleAnswersAsItSays(block(readme, "sh"), example);
     exampleHasTheWholeFace(example);
     commandsNameFilesThatStand(readme);
     everyTestIsNamed(readme);
@@ -34,11 +30,12 @@ public final class ReadmeTest {
   private static String block(String readme, String language) {
     Matcher block = Pattern.compile("(?s)\n```" + language + "\n(.*?\n)```\n").matcher(readme);
     boolean stands = block.find();
-    Check.holds("there is an example in " + language, stands);
+    Check.holds("there is a block in " + language, stands);
     return stands ? block.group(1) : "";
   }
 
-  private static void exampleAnswersAsItSays(String example) throws Exception {
+  /** The commands are run as they stand, where the class and the example are beside each other. */
+  private static void exampleAnswersAsItSays(String commands, String example) throws Exception {
     List<String> due = new ArrayList<>();
     Matcher told = TOLD.matcher(example);
     while (told.find()) {
@@ -46,27 +43,13 @@ public final class ReadmeTest {
     }
     Check.holds("the example tells answers", due.size() > 20);
     Path place = Files.createDirectories(Path.of("build/readme"));
-    Path file = Files.writeString(place.resolve("Example.java"), example);
-    int compiled = ToolProvider.getSystemJavaCompiler().run(null, System.out, System.out,
-        "-d", place.toString(), PROGRAM.toString(), file.toString());
-    Check.same("javac of the example", String.valueOf(compiled), "0");
-    if (compiled == 0) {
-      Check.same("the example", String.join(" ", outputOf(place)), String.join(" ", due));
-    }
-  }
-
-  private static List<String> outputOf(Path classes) throws Exception {
-    ByteArrayOutputStream bytes = new ByteArrayOutputStream();
-    PrintStream out = System.out;
-    URL[] places = {classes.toUri().toURL()};
-    try (URLClassLoader loader = new URLClassLoader(places, ClassLoader.getPlatformClassLoader())) {
-      Method main = loader.loadClass("Example").getMethod("main", String[].class);
-      System.setOut(new PrintStream(bytes, true, StandardCharsets.UTF_8));
-      main.invoke(null, (Object) new String[0]);
-    } finally {
-      System.setOut(out);
-    }
-    return bytes.toString(StandardCharsets.UTF_8).lines().toList();
+    Files.copy(PROGRAM, place.resolve("GateLedger.java"), StandardCopyOption.REPLACE_EXISTING);
+    Files.writeString(place.resolve("Example.java"), example);
+    Process shell = new ProcessBuilder("sh", "-e", "-c", commands)
+        .directory(place.toFile()).redirectError(ProcessBuilder.Redirect.INHERIT).start();
+    String output = new String(shell.getInputStream().readAllBytes(), StandardCharsets.UTF_8);
+    Check.same("the commands' exit code", String.valueOf(shell.waitFor()), "0");
+    Check.same("the example", output.strip().replaceAll("\\R", " "), String.join(" ", due));
   }
 
   private static void exampleHasTheWholeFace(String example) {
